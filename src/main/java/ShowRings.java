@@ -19,6 +19,7 @@ public final class ShowRings {
     private static final int RANKS = 20;
     private static final int DAYS = 10000;
     private static final int MINUTES = 10000;
+    private static final int NEVER = 1000000;
     private static final int MOST_RINGS = 3;
     private static final int TAPE_BYTES = 2000;
     private static final int FED_BYTES = 20;
@@ -989,10 +990,10 @@ public final class ShowRings {
 
         /** Who has a DOG by a sale; by NONE its first OWNER. */
         private int buyer(int dog, int sale) {
-            if (isWithin(sale, 0, size - 1)) {
+            if (sale >= 0 && sale < size) {
                 return values[sale];
             }
-            return isWithin(dog, 0, kennel.dogs - 1) ? kennel.firstOwner[dog] : NONE;
+            return dog >= 0 && dog < kennel.dogs ? kennel.firstOwner[dog] : NONE;
         }
 
         int ownerOn(int dog, int day, int n) {
@@ -1166,8 +1167,8 @@ public final class ShowRings {
                 toPlace |= dogs == 0 ? 0 : 1 << b;
             }
             rings = ringCount;
-            bestLast = Integer.MAX_VALUE;
-            bestSum = Integer.MAX_VALUE;
+            bestLast = NEVER;
+            bestSum = NEVER;
             trial.clear();
             tryOrders(toPlace, 0, 0, 0);
             return true;
@@ -1217,7 +1218,7 @@ public final class ShowRings {
          * is free one sooner unless something ends there.
          */
         private void placeBreed(int breed, int placed) {
-            int soonest = fits(breed, 0, placed) ? 0 : Integer.MAX_VALUE;
+            int soonest = fits(breed, 0, placed) ? 0 : NEVER;
             for (int b = 0; b < BREEDS; b++) {
                 if ((placed >> b & 1) == 1) {
                     int end = trial.at(b, END);

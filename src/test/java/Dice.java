@@ -90,6 +90,22 @@ final class Dice {
         return all.toString();
     }
 
+    /** A text under which all DOGS have a CLASS, few JUDGES are BARRED, and titles come. */
+    String mildText() {
+        String[] rules = {
+            "class 1 if age < " + below(30) + ";", "class 2 if 1 == 1;", "bar if own == 1;", "bar if kin == 1;",
+            "bar if 0 <= parted and parted < " + between(1, 30) + ";", "bar if class == 1 and sex == 1;",
+            "points 1 + beaten * 2 if class == 2;", "points " + term(3) + " if " + relation() + ";",
+            "points 1 + beaten;", "title " + below(12) + " under " + below(3) + ";"};
+        StringBuilder all = new StringBuilder();
+        for (int i = 0; i < rules.length; i++) {
+            if (i == 1 || i >= 8 || one(3)) {
+                all.append(rules[i]).append(gap());
+            }
+        }
+        return all.toString();
+    }
+
     /** A text that may have a fault: pieces put in, taken out, many rules, many brackets, many tokens. */
     String hurtText() {
         StringBuilder all = new StringBuilder(text(one(4) ? between(14, 19) : below(5)));

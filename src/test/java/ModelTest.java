@@ -1,10 +1,14 @@
+import java.lang.reflect.Method;
+import java.lang.reflect.Modifier;
 import java.util.ArrayList;
 import java.util.Arrays;
+import java.util.HashMap;
 import java.util.List;
+import java.util.Map;
 
 /** Runs of thrown calls, each answered by the program and by the slow model; the answers must agree. */
 public final class ModelTest {
-    private static final int RUNS = 1500;
+    private static final int RUNS = 400;
     private static final int CALLS = 512;
     private static final String[] NAMES = {
         "feed", "back", "read", "place", "kin", "breed", "dog", "permits", "rings", "show", "enter", "fact",
@@ -13,6 +17,9 @@ public final class ModelTest {
     /** How often each call is thrown, in the order of the names; texts come by themselves. */
     private static final int[] WEIGHTS = {
         0, 1, 0, 1, 4, 4, 14, 9, 2, 4, 26, 30, 12, 8, 10, 10, 10, 5, 14, 14, 14, 12, 6, 8, 10, 5};
+    private static final int[] ARRANGED_WEIGHTS = {
+        0, 0, 0, 0, 2, 0, 0, 2, 1, 0, 3, 30, 9, 4, 4, 8, 10, 2, 8, 12, 14, 14, 4, 8, 10, 1};
+    private static final Map<String, Method> METHODS = new HashMap<>();
 
     private final Check check;
     private final Dice dice;
@@ -21,6 +28,7 @@ public final class ModelTest {
     private final Model model = new Model();
     private final List<String> calls = new ArrayList<>();
     private final int lastDay;
+    private boolean arranged = false;
 
     private ModelTest(Check check, int run) {
         this.check = check;
@@ -61,13 +69,13 @@ public final class ModelTest {
     }
 
     private void throwCalls() {
-        int first = dice.between(0, 3);
-        for (int i = 0; i < first; i++) {
-            ask(5, dice.below(3), dice.between(1, 9), dice.below(40), dice.between(40, 99), 0);
+        if (dice.one(2)) {
+            arrange();
+        } else {
+            throwText();
         }
-        throwText();
         while (calls.size() < CALLS && !check.hasWrong()) {
-            if (dice.one(60)) {
+            if (dice.one(arranged ? 250 : 60)) {
                 throwText();
             } else {
                 throwCall();
@@ -78,31 +86,67 @@ public final class ModelTest {
         }
     }
 
+    /** Shows with many entries, planned, under a mild text: what follows has winners, titles and clashes. */
+    private void arrange() {
+        arranged = true;
+        int breeds = dice.between(1, 6);
+        for (int b = 0; b < breeds; b++) {
+            throwCall("breed");
+        }
+        int dogs = dice.between(4, 20);
+        for (int d = 0; d < dogs; d++) {
+            throwCall("dog");
+        }
+        for (int p = dice.between(1, 6); p > 0; p--) {
+            ask("permits", dice.below(12), dice.one(2) ? 63 : dice.below(64));
+        }
+        throwCall("rings");
+        tell(dice.mildText());
+        int shows = dice.between(1, 5);
+        for (int s = 0; s < shows; s++) {
+            throwCall("show");
+            for (int d = 0; d < dogs; d++) {
+                if (!dice.one(5)) {
+                    ask("enter", s, d);
+                }
+            }
+            ask("plan", s, model.count(3));
+            for (int what = 0; what < 4; what++) {
+                ask("planned", s, dice.below(breeds), what);
+            }
+        }
+    }
+
     private void throwText() {
         boolean tame = dice.one(2);
         String text = dice.one(6) ? dice.hurtText()
                 : (tame ? "class 1 if age < 9; class 2 if 1 == 1;" : "") + dice.text(dice.below(tame ? 8 : 12));
-        byte[] bytes = Check.bytes(text.length() > 2000 ? text.substring(0, 2000) : text);
+        tell(text.length() > 2000 ? text.substring(0, 2000) : text);
+    }
+
+    private void tell(String text) {
+        byte[] bytes = Check.bytes(text);
         for (int k = 0; k < bytes.length; k += 20) {
-            ask(0, Check.four(bytes, k / 4), Check.four(bytes, k / 4 + 1), Check.four(bytes, k / 4 + 2),
+            ask("feed", Check.four(bytes, k / 4), Check.four(bytes, k / 4 + 1), Check.four(bytes, k / 4 + 2),
                     Check.four(bytes, k / 4 + 3), Check.four(bytes, k / 4 + 4));
         }
-        ask(1, (20 - bytes.length % 20) % 20, 0, 0, 0, 0);
-        ask(25, 6, 0, 0, 0, 0);
-        ask(2, 0, 0, 0, 0, 0);
-        ask(3, 0, 0, 0, 0, 0);
-        ask(25, 4, 0, 0, 0, 0);
+        ask("back", (20 - bytes.length % 20) % 20);
+        ask("count", 6);
+        ask("read");
+        ask("place");
+        ask("count", 4);
     }
 
     private void throwCall() {
-        int all = Arrays.stream(WEIGHTS).sum();
+        int[] weights = arranged ? ARRANGED_WEIGHTS : WEIGHTS;
+        int all = Arrays.stream(weights).sum();
         int thrown = dice.below(all);
         int op = 0;
-        while (thrown >= WEIGHTS[op]) {
-            thrown -= WEIGHTS[op];
+        while (thrown >= weights[op]) {
+            thrown -= weights[op];
             op++;
         }
-        throwCall(op);
+        throwCall(NAMES[op]);
     }
 
     private int wrongOr(int right, int size) {
@@ -134,111 +178,73 @@ public final class ModelTest {
         return wrongOr(dice.one(2) ? all : dice.between(0, all), all + 1);
     }
 
-    private void throwCall(int op) {
-        switch (op) {
-            case 1: ask(op, dice.between(-1, 2), 0, 0, 0, 0); break;
-            case 4: ask(op, person(), person(), 0, 0, 0); break;
-            case 5: ask(op, wrongOr(dice.below(3), 3), wrongOr(dice.between(1, 9), 10), wrongOr(dice.below(50), 100),
-                    wrongOr(dice.between(45, 99), 100), 0); break;
-            case 6: ask(op, breed(), day(), wrongOr(dice.below(2), 2), person(), person()); break;
-            case 7: ask(op, person(), wrongOr(dice.one(3) ? 63 : dice.below(64), 64), 0, 0, 0); break;
-            case 8: ask(op, dice.one(9) ? dice.between(-1, 5) : dice.between(1, 3), 0, 0, 0, 0); break;
-            case 9: ask(op, lastDay == 45 ? dice.between(0, 6) + 8 * model.count(2) : day(), 0, 0, 0, 0); break;
-            case 10: case 17: ask(op, show(), dog(), 0, 0, 0); break;
-            case 11: throwFact(); break;
-            case 12: ask(op, dog(), person(), day(), 0, 0); break;
-            case 13: ask(op, show(), known(), 0, 0, 0); break;
-            case 14: ask(op, show(), breed(), dice.between(-1, 4), 0, 0); break;
-            case 15: ask(op, person(), show(), dog(), known(), 0); break;
-            case 16: ask(op, show(), breed(), wrongOr(dice.below(60), 10000), 0, 0); break;
-            case 18: case 20: ask(op, show(), dog(), known(), 0, 0); break;
-            case 19: ask(op, show(), breed(), known(), 0, 0); break;
-            case 21: ask(op, dog(), known(), 0, 0, 0); break;
-            case 22: ask(op, dog(), day(), known(), 0, 0); break;
-            case 23: ask(op, person(), dog(), day(), known(), 0); break;
-            case 24: ask(op, show(), known(), known(), 0, 0); break;
-            case 25: ask(op, dice.between(-1, 16), 0, 0, 0, 0); break;
-            default: ask(op, 0, 0, 0, 0, 0);
+    private void throwCall(String name) {
+        switch (name) {
+            case "back": ask(name, dice.between(-1, 2)); break;
+            case "kin": ask(name, person(), person()); break;
+            case "breed": ask(name, wrongOr(dice.below(3), 3), wrongOr(dice.between(1, 9), 10), wrongOr(dice.below(50), 100),
+                    wrongOr(dice.between(45, 99), 100)); break;
+            case "dog": ask(name, breed(), day(), wrongOr(dice.below(2), 2), person(), person()); break;
+            case "permits": ask(name, person(), wrongOr(dice.one(3) ? 63 : dice.below(64), 64)); break;
+            case "rings": ask(name, dice.one(9) ? dice.between(-1, 5) : dice.between(1, 3)); break;
+            case "show": ask(name, lastDay == 45 ? dice.between(0, 6) + 8 * model.count(2) : day()); break;
+            case "enter": case "classed": ask(name, show(), dog()); break;
+            case "fact": throwFact(); break;
+            case "owned": ask(name, dog(), person(), day()); break;
+            case "plan": ask(name, show(), known()); break;
+            case "planned": ask(name, show(), breed(), dice.between(-1, 4)); break;
+            case "barred": ask(name, person(), show(), dog(), known()); break;
+            case "clash": ask(name, show(), breed(), wrongOr(dice.below(60), 10000)); break;
+            case "counts": case "points": ask(name, show(), dog(), known()); break;
+            case "winner": ask(name, show(), breed(), known()); break;
+            case "title": ask(name, dog(), known()); break;
+            case "owner": ask(name, dog(), day(), known()); break;
+            case "parted": ask(name, person(), dog(), day(), known()); break;
+            case "changed": ask(name, show(), known(), known()); break;
+            case "count": ask(name, dice.between(-1, 16)); break;
+            default: ask(name);
         }
     }
 
     private void throwFact() {
-        int kind = dice.one(60) ? dice.between(-1, 5) : dice.one(6) ? dice.between(1, 2) : dice.one(3) ? 3 : 0;
+        int kind = dice.one(60) ? dice.between(-1, 5) : dice.one(arranged ? 20 : 6) ? dice.between(1, 2) : dice.one(3) ? 3 : 0;
         int v = kind == 0 ? wrongOr(dice.between(1, dice.one(2) ? 20 : 4), 21)
                 : kind == 3 ? wrongOr(dice.between(dice.one(3) ? 0 : 35, dice.one(3) ? 99 : 60), 100) : dice.one(40) ? 1 : 0;
-        ask(11, kind, show(), dog(), v, 0);
+        ask("fact", kind, show(), dog(), v);
     }
 
-    private void ask(int op, int a, int b, int c, int d, int e) {
+    private void ask(String name, int... some) {
         if (calls.size() >= CALLS) {
             return;
         }
-        String call = NAMES[op] + "(" + a + ", " + b + ", " + c + ", " + d + ", " + e + ")";
+        int[] numbers = Arrays.copyOf(some, 5);
+        String call = name + Arrays.toString(some);
         calls.add(call);
-        check.due("run " + run + " call " + calls.size() + " " + call, program(op, a, b, c, d, e), model(op, a, b, c, d, e));
+        check.due("run " + run + " call " + calls.size() + " " + call,
+                answer(program, name, numbers), answer(model, name, numbers));
     }
 
-    private int program(int op, int a, int b, int c, int d, int e) {
-        ShowRings x = program;
-        switch (op) {
-            case 0: return x.feed(a, b, c, d, e);
-            case 1: return x.back(a);
-            case 2: return x.read();
-            case 3: return x.place();
-            case 4: return x.kin(a, b) ? 1 : 0;
-            case 5: return x.breed(a, b, c, d);
-            case 6: return x.dog(a, b, c, d, e);
-            case 7: return x.permits(a, b) ? 1 : 0;
-            case 8: return x.rings(a) ? 1 : 0;
-            case 9: return x.show(a);
-            case 10: return x.enter(a, b);
-            case 11: return x.fact(a, b, c, d);
-            case 12: return x.owned(a, b, c);
-            case 13: return x.plan(a, b);
-            case 14: return x.planned(a, b, c);
-            case 15: return x.barred(a, b, c, d);
-            case 16: return x.clash(a, b, c);
-            case 17: return x.classed(a, b);
-            case 18: return x.counts(a, b, c);
-            case 19: return x.winner(a, b, c);
-            case 20: return x.points(a, b, c);
-            case 21: return x.title(a, b);
-            case 22: return x.owner(a, b, c);
-            case 23: return x.parted(a, b, c, d);
-            case 24: return x.changed(a, b, c);
-            default: return x.count(a);
+    /** A call by its name, with as many of the numbers as it takes; a boolean counts 1 or 0. */
+    private static int answer(Object asked, String name, int[] numbers) {
+        try {
+            Method method = METHODS.computeIfAbsent(asked.getClass().getName() + "." + name, key -> find(asked, name));
+            Object[] arguments = new Object[method.getParameterCount()];
+            for (int i = 0; i < arguments.length; i++) {
+                arguments[i] = numbers[i];
+            }
+            Object got = method.invoke(asked, arguments);
+            return got instanceof Boolean ? ((Boolean) got ? 1 : 0) : (Integer) got;
+        } catch (ReflectiveOperationException e) {
+            throw new IllegalStateException(name, e);
         }
     }
 
-    private int model(int op, int a, int b, int c, int d, int e) {
-        Model x = model;
-        switch (op) {
-            case 0: return x.feed(a, b, c, d, e);
-            case 1: return x.back(a);
-            case 2: return x.read();
-            case 3: return x.place();
-            case 4: return x.kin(a, b) ? 1 : 0;
-            case 5: return x.breed(a, b, c, d);
-            case 6: return x.dog(a, b, c, d, e);
-            case 7: return x.permits(a, b) ? 1 : 0;
-            case 8: return x.rings(a) ? 1 : 0;
-            case 9: return x.show(a);
-            case 10: return x.enter(a, b);
-            case 11: return x.fact(a, b, c, d);
-            case 12: return x.owned(a, b, c);
-            case 13: return x.plan(a, b);
-            case 14: return x.planned(a, b, c);
-            case 15: return x.barred(a, b, c, d);
-            case 16: return x.clash(a, b, c);
-            case 17: return x.classed(a, b);
-            case 18: return x.counts(a, b, c);
-            case 19: return x.winner(a, b, c);
-            case 20: return x.points(a, b, c);
-            case 21: return x.title(a, b);
-            case 22: return x.owner(a, b, c);
-            case 23: return x.parted(a, b, c, d);
-            case 24: return x.changed(a, b, c);
-            default: return x.count(a);
+    private static Method find(Object asked, String name) {
+        for (Method method : asked.getClass().getDeclaredMethods()) {
+            if (method.getName().equals(name) && !Modifier.isPrivate(method.getModifiers())) {
+                return method;
+            }
         }
+        throw new IllegalStateException("no method " + name);
     }
 }
