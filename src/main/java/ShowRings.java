@@ -1189,18 +1189,17 @@ public final class ShowRings {
 
         /**
          * Tries every ORDER of the BREEDS that are left behind those that are placed. The least BREED is
-         * tried first and only a better end takes the best's place, so the first of like ORDERS stays.
+         * tried first and only what is better takes the best's place, so the first of like ORDERS stays.
+         * More BREEDS never make last or sum less, so what is no better by now is given up.
          */
         private void tryOrders(int left, int placed, int last, int sum) {
-            if (last > bestLast) {
+            if (last > bestLast || last == bestLast && sum >= bestSum) {
                 return;
             }
             if (left == 0) {
-                if (last < bestLast || sum < bestSum) {
-                    bestLast = last;
-                    bestSum = sum;
-                    best.copyFrom(trial);
-                }
+                bestLast = last;
+                bestSum = sum;
+                best.copyFrom(trial);
                 return;
             }
             for (int b = 0; b < BREEDS; b++) {
