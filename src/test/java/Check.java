@@ -3,6 +3,7 @@ import java.nio.charset.StandardCharsets;
 /** What the tests share: comparing answers, and bringing a text to the tape. */
 final class Check {
     private final String name;
+    private String sentence = "";
     private int asked = 0;
     private int wrong = 0;
 
@@ -10,11 +11,16 @@ final class Check {
         this.name = name;
     }
 
+    /** The sentence of the document that the next answers are due by. */
+    void sentence(String words) {
+        sentence = "\"" + words + "\": ";
+    }
+
     void due(String call, long got, long want) {
         asked++;
         if (got != want) {
             wrong++;
-            System.out.println(name + ": " + call + " answered " + got + ", due is " + want);
+            System.out.println(name + ": " + sentence + call + " answered " + got + ", due is " + want);
         }
     }
 
