@@ -26,6 +26,7 @@ public final class PlansTest {
         textBehindPlan();
         showsApart();
         clashEdges();
+        clashBetween();
         clashLeast();
         clashOwnMinutes();
         clashNobody();
@@ -463,6 +464,19 @@ public final class PlansTest {
         due("at the most", x.clash(0, 1, Integer.MAX_VALUE), NONE);
         due("at the least", x.clash(0, 1, Integer.MIN_VALUE), NONE);
         planOf(x, 0, 0, 0, 0, 0, 4);
+    }
+
+    private static void clashBetween() {
+        CHECK.sentence("if a BREED began at a MINUTE, all else as PLANNED");
+        ShowRings x = Worlds.oneDogEach(1, new int[] {3, 4, 5}, new int[] {1, 2, 2}, new int[] {7});
+        due("plan", x.plan(0, 0), 12);
+        planOf(x, 0, 1, 0, 0, 3, 7);
+        planOf(x, 0, 2, 0, 0, 7, 12);
+        for (int minute = 0; minute < 15; minute++) {
+            due("BREED 1 at " + minute, x.clash(0, 1, minute), minute > 3 && minute < 12 ? 2 : NONE);
+            due("BREED 2 at " + minute, x.clash(0, 2, minute), minute < 7 ? 2 : NONE);
+            due("BREED 0 at " + minute, x.clash(0, 0, minute), NONE);
+        }
     }
 
     private static void clashLeast() {

@@ -217,6 +217,7 @@ public final class TextTest {
             right("points " + var + ";");
             fault("points " + var + "a;", SYNTAX, 7);
             fault("points z" + var + ";", SYNTAX, 7);
+            fault("points z" + var.substring(1) + ";", SYNTAX, 7);
             fault("points " + var.substring(1) + ";", SYNTAX, 7);
             fault("points " + var.substring(0, var.length() - 1) + ";", SYNTAX, 7);
             fault("points " + var.toUpperCase() + ";", SYNTAX, 7);
@@ -359,8 +360,9 @@ public final class TextTest {
         String[] conds = {"1 == 1 or 1 == 1 and 1 == 2", "1 == 2 and 1 == 1 or 1 == 1", "1 == 1 and 1 == 2 or 1 == 2",
             "1 == 2 or 1 == 1 and 1 == 1", "1 == 1 or 1 == 2 or 1 == 2", "1 == 2 or 1 == 2 or 1 == 1",
             "1 == 1 and 1 == 1 and 1 == 2", "1 == 2 and 1 == 1 and 1 == 1", "1 == 1 and 1 == 1 and 1 == 1",
-            "1 + 1 == 2 and 2 * 2 == 4", "2 == 1 + 1 or 1 == 2"};
-        boolean[] hold = {true, true, false, true, true, true, false, false, true, true, true};
+            "1 + 1 == 2 and 2 * 2 == 4", "2 == 1 + 1 or 1 == 2", "1 == 1 and 1 != 2 and 1 < 2 and 1 <= 2",
+            "1 <= 2 and 1 == 1", "1 != 2 and 1 < 2", "1 != 1 or 1 < 1 or 2 <= 1 or 1 == 2"};
+        boolean[] hold = {true, true, false, true, true, true, false, false, true, true, true, true, true, true, false};
         for (int i = 0; i < conds.length; i++) {
             CHECK.due(conds[i], holds(conds[i]), hold[i]);
         }
@@ -677,6 +679,8 @@ public final class TextTest {
             for (int n = 1; n <= 3; n++) {
                 due("a points RULE's " + var + " as KNOWN by " + n, z.points(0, 0, n), 5);
             }
+            z.owned(0, 11, 96);
+            due("a points RULE's " + var + " of its OWNER", z.points(0, 0, 4), 5);
             Check.read(z, "points 8 if " + var + " == 0; points 9;");
             due("a points RULE's COND's " + var, z.points(0, 0, 2), 8);
         }
@@ -737,6 +741,10 @@ public final class TextTest {
         due("ENTRIES", x.count(10), 4);
         Check.read(x, "points 1;");
         due("no class RULE", x.classed(0, 1), -1);
+        Check.read(x, "class 1 if 1 == 2;".repeat(15) + "class 6 if 1 == 1;");
+        due("the sixteenth", x.classed(0, 1), 6);
+        Check.read(x, "class 1 if 1 == 2;".repeat(16));
+        due("none of sixteen", x.classed(0, 1), -1);
     }
 
     private static void bars() {
